@@ -114,8 +114,8 @@ public final class ImaginedTest {
     private static void rival() {
         PastureBids sale = Sales.usual();
         long before = sale.digest();
-        // Without 0 the bidder 2 pays 50, without 1 the same 20 more than the gain
-        // of 40: 70, and without 2 the bidders 0 and 1 pay their reserves, 30.
+        // Without 0 the bidder 2 pays 30 + 20, without 1 this one pays 30 + 40,
+        // and without 2 the bidders 0 and 1 pay their reserves, 30.
         Check.same("rival()", 1, sale.rival());
         Check.same("rival() changed nothing", before, sale.digest());
         PastureBids empty = Sales.with(3, 4);
