@@ -1,7 +1,8 @@
-/** Runs of up to 512 calls, each answer compared with that of the plain model. */
+/** Runs of up to the 512 calls that are promised, each answer compared with that of the plain model. */
 public final class LongRunsTest {
-    private static final int RUNS = 120;
-    private static final int CALLS = 100;
+    private static final int RUNS = 480;
+    /** Each has at most 20 calls; 25 stand ahead of them and 108 behind them. */
+    private static final int ROUNDS = 18;
 
     private final PastureBids sale = new PastureBids();
     private final PlainModel model = new PlainModel();
@@ -36,7 +37,11 @@ public final class LongRunsTest {
         while (model.bidders < 2 + below(4)) {
             addBidder();
         }
-        for (int call = 0; call < CALLS; call++) {
+        int bidsAtFirst = below(mostBids);
+        while (model.bids < bidsAtFirst) {
+            addBid();
+        }
+        for (int round = 0; round < ROUNDS; round++) {
             change();
             ask();
         }

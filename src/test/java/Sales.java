@@ -28,4 +28,19 @@ final class Sales {
         sale.bid(0, 4, 4);
         return sale;
     }
+
+    /** As many fields and bidders as there can be: the reserves are 0, 11, 22 and so on, 77 the last. */
+    static PastureBids fullWithoutBids() {
+        return with(5, 0, 11, 22, 33, 44, 55, 66, 77);
+    }
+
+    /** As much as there can be: 8 fields, 5 bidders and 12 bids, each for two neighbours or for one field. */
+    static PastureBids full() {
+        PastureBids sale = fullWithoutBids();
+        for (int bid = 0; bid < 12; bid++) {
+            int fields = bid < 7 ? 3 << bid : 1 << bid - 4;
+            sale.bid(bid % 5, fields, 150 + bid * 7);
+        }
+        return sale;
+    }
 }
